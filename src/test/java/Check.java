@@ -27,8 +27,15 @@ final class Check {
         try {
             return String.valueOf(call.answer());
         } catch (RuntimeException e) {
-            return nameOf(e.getClass());
+            return nameOf(e.getClass()) + (isThrownByTheLibrary(e) ? " of the library" : "");
         }
+    }
+
+    /** A list throws the document's own IndexOutOfBoundsException if the class forgets to look at its size. */
+    private static boolean isThrownByTheLibrary(RuntimeException e) {
+        StackTraceElement[] frames = e.getStackTrace();
+        return frames.length > 0 && frames[0].getClassName().startsWith("java.")
+                || frames.length > 0 && frames[0].getClassName().startsWith("jdk.");
     }
 
     static String nameOf(Class<?> exception) {

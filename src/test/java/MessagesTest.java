@@ -9,6 +9,7 @@ public final class MessagesTest {
         promise7Edit();
         promise8Mark();
         promise8Counting();
+        promise8BeyondAllCalls();
         promise15MessageOf();
         promise16IsApproved();
         promise16OneAndTwo();
@@ -127,6 +128,20 @@ public final class MessagesTest {
         Check.due("not gone any more", 2, () -> chat.messageOf(0, 6));
         chat.edit(0, 0);
         Check.due("another version", 0, () -> chat.messageOf(0, 6));
+    }
+
+    /** Behind the 512th call answers are free, but the machine itself may still not throw. */
+    private static void promise8BeyondAllCalls() {
+        MarkChat chat = withUsers(1);
+        chat.post(0, 0, -1);
+        for (int i = 0; i < 2000; i++) {
+            int kind = i % 2;
+            String marked = Check.outcome(() -> chat.mark(0, 0, kind));
+            String edited = Check.outcome(() -> chat.edit(0, 0));
+            boolean isFree = (marked.equals("1") || marked.equals("throws.IllegalStateException"))
+                    && (edited.equals("" + (i + 1)) || edited.equals("throws.IllegalStateException"));
+            Check.report("mark and edit, " + marked + " and " + edited, "true", "" + isFree);
+        }
     }
 
     private static void promise15MessageOf() {
