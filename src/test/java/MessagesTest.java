@@ -16,21 +16,8 @@ public final class MessagesTest {
         Check.end();
     }
 
-    private static MarkChat withUsers(int... roles) {
-        MarkChat chat = new MarkChat();
-        for (int role : roles) {
-            chat.user(role);
-        }
-        return chat;
-    }
-
-    private static void approved(String what, MarkChat chat, int message, int amount, boolean want) {
-        Check.due(what, want, () -> chat.isApproved(message, amount, false));
-        Check.due(what + ", anew", want, () -> chat.isApproved(message, amount, true));
-    }
-
     private static void promise6Post() {
-        MarkChat chat = withUsers(0, 1);
+        MarkChat chat = Chats.withUsers(0, 1);
         Check.due("post", 0, () -> chat.post(0, 0, -1));
         Check.due("reply", 1, () -> chat.post(1, 0, 0));
         Check.due("reply to a reply", 2, () -> chat.post(1, 0, 1));
@@ -48,7 +35,7 @@ public final class MessagesTest {
     }
 
     private static void promise6MostMessages() {
-        MarkChat chat = withUsers(1);
+        MarkChat chat = Chats.withUsers(1);
         for (int i = 0; i < 80; i++) {
             int number = i;
             Check.due("post", number, () -> chat.post(0, number % 6, -1));
@@ -60,7 +47,7 @@ public final class MessagesTest {
     }
 
     private static void promise7Edit() {
-        MarkChat chat = withUsers(0, 3);
+        MarkChat chat = Chats.withUsers(0, 3);
         chat.post(0, 0, -1);
         chat.post(1, 0, -1);
         Check.due("edit", 1, () -> chat.edit(0, 0));
@@ -79,7 +66,7 @@ public final class MessagesTest {
     }
 
     private static void promise8Mark() {
-        MarkChat chat = withUsers(1, 1, 0);
+        MarkChat chat = Chats.withUsers(1, 1, 0);
         chat.post(0, 0, -1);
         chat.post(0, 0, -1);
         Check.due("YES", 1, () -> chat.mark(0, 0, 0));
@@ -110,7 +97,7 @@ public final class MessagesTest {
     }
 
     private static void promise8Counting() {
-        MarkChat chat = withUsers(1, 2, 0);
+        MarkChat chat = Chats.withUsers(1, 2, 0);
         chat.post(0, 3, -1);
         chat.mark(0, 0, 0);
         chat.mark(1, 0, 1);
@@ -132,7 +119,7 @@ public final class MessagesTest {
 
     /** Behind the 512th call answers are free, but the machine itself may still not throw. */
     private static void promise8BeyondAllCalls() {
-        MarkChat chat = withUsers(1);
+        MarkChat chat = Chats.withUsers(1);
         chat.post(0, 0, -1);
         for (int i = 0; i < 2000; i++) {
             int kind = i % 2;
@@ -145,7 +132,7 @@ public final class MessagesTest {
     }
 
     private static void promise15MessageOf() {
-        MarkChat chat = withUsers(1, 2);
+        MarkChat chat = Chats.withUsers(1, 2);
         chat.post(0, 2, -1);
         chat.pass(3);
         chat.post(1, 2, 0);
@@ -169,39 +156,39 @@ public final class MessagesTest {
     }
 
     private static void promise16IsApproved() {
-        MarkChat chat = withUsers(3, 2, 1, 0);
+        MarkChat chat = Chats.withUsers(3, 2, 1, 0);
         chat.post(0, 0, -1);
-        approved("without marks", chat, 0, 1, false);
+        Chats.approved("without marks", false, chat, 0, 1);
         chat.mark(0, 0, 0);
-        approved("by its author", chat, 0, 1, false);
+        Chats.approved("by its author", false, chat, 0, 1);
         chat.mark(2, 0, 0);
-        approved("by a MEMBER", chat, 0, 1, false);
+        Chats.approved("by a MEMBER", false, chat, 0, 1);
         chat.mark(1, 0, 0);
-        approved("by a LEAD", chat, 0, 1, true);
+        Chats.approved("by a LEAD", true, chat, 0, 1);
         chat.mark(3, 0, 1);
-        approved("against a GUEST", chat, 0, 1, true);
+        Chats.approved("against a GUEST", true, chat, 0, 1);
         chat.mark(2, 0, 1);
-        approved("against a MEMBER", chat, 0, 1, false);
+        Chats.approved("against a MEMBER", false, chat, 0, 1);
         chat.mark(2, 0, -1);
-        approved("the NO is off", chat, 0, 1, true);
+        Chats.approved("the NO is off", true, chat, 0, 1);
         chat.mark(0, 0, 1);
-        approved("against its author", chat, 0, 1, false);
+        Chats.approved("against its author", false, chat, 0, 1);
         chat.ends(0, 0);
-        approved("whose NO is gone", chat, 0, 1, true);
+        Chats.approved("whose NO is gone", true, chat, 0, 1);
         chat.role(1, 1);
-        approved("by a MEMBER now", chat, 0, 1, false);
+        Chats.approved("by a MEMBER now", false, chat, 0, 1);
         chat.role(1, 3);
-        approved("by a CHIEF now", chat, 0, 1, true);
+        Chats.approved("by a CHIEF now", true, chat, 0, 1);
         chat.ends(1, 1);
-        approved("not gone yet", chat, 0, 1, true);
+        Chats.approved("not gone yet", true, chat, 0, 1);
         chat.pass(1);
-        approved("gone", chat, 0, 1, false);
+        Chats.approved("gone", false, chat, 0, 1);
         chat.ends(1, -1);
         chat.ends(0, -1);
         chat.mark(0, 0, -1);
-        approved("both back", chat, 0, 1, true);
+        Chats.approved("both back", true, chat, 0, 1);
         chat.edit(0, 0);
-        approved("another version", chat, 0, 1, false);
+        Chats.approved("another version", false, chat, 0, 1);
         Check.refused("isApproved(0, 0)", Check.ARGUMENT, () -> chat.isApproved(0, 0, false));
         Check.refused("isApproved(0, 1000001)", Check.ARGUMENT, () -> chat.isApproved(0, 1000001, true));
         Check.refused("isApproved(1, 0)", Check.INDEX, () -> chat.isApproved(1, 0, false));
@@ -209,26 +196,26 @@ public final class MessagesTest {
     }
 
     private static void promise16OneAndTwo() {
-        MarkChat chat = withUsers(3, 2, 2, 3, 3);
+        MarkChat chat = Chats.withUsers(3, 2, 2, 3, 3);
         chat.post(0, 0, -1);
         chat.post(3, 0, -1);
         chat.mark(0, 0, 0);
         chat.mark(1, 0, 0);
-        approved("1000 by a LEAD", chat, 0, 1000, true);
-        approved("1001 by a LEAD, and its author", chat, 0, 1001, false);
-        approved("marks of another message", chat, 1, 1, false);
+        Chats.approved("1000 by a LEAD", true, chat, 0, 1000);
+        Chats.approved("1001 by a LEAD, and its author", false, chat, 0, 1001);
+        Chats.approved("marks of another message", false, chat, 1, 1);
         chat.mark(2, 0, 0);
-        approved("1001 by two LEADs", chat, 0, 1001, false);
+        Chats.approved("1001 by two LEADs", false, chat, 0, 1001);
         chat.mark(1, 0, -1);
         chat.mark(3, 0, 0);
-        approved("1001 by a LEAD and a CHIEF", chat, 0, 1001, true);
-        approved("the most", chat, 0, 1000000, true);
+        Chats.approved("1001 by a LEAD and a CHIEF", true, chat, 0, 1001);
+        Chats.approved("the most", true, chat, 0, 1000000);
         chat.mark(2, 0, -1);
-        approved("1001 by a CHIEF", chat, 0, 1001, false);
+        Chats.approved("1001 by a CHIEF", false, chat, 0, 1001);
         chat.mark(4, 0, 0);
-        approved("1001 by two CHIEFs", chat, 0, 1001, true);
+        Chats.approved("1001 by two CHIEFs", true, chat, 0, 1001);
         chat.mark(1, 0, 1);
-        approved("against a LEAD", chat, 0, 1001, false);
-        approved("against a LEAD", chat, 0, 1, false);
+        Chats.approved("against a LEAD", false, chat, 0, 1001);
+        Chats.approved("against a LEAD", false, chat, 0, 1);
     }
 }

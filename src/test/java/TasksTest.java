@@ -16,33 +16,12 @@ public final class TasksTest {
         Check.end();
     }
 
-    private static MarkChat withUsers(int... roles) {
-        MarkChat chat = new MarkChat();
-        for (int role : roles) {
-            chat.user(role);
-        }
-        return chat;
-    }
-
-    private static String labelOf(MarkChat chat, int task) {
-        StringBuilder signs = new StringBuilder();
-        for (int place = 0; place < 60; place++) {
-            char sign = chat.label(task, place);
-            signs.append(sign == 0 ? '.' : sign);
-        }
-        int end = signs.length();
-        while (end > 0 && signs.charAt(end - 1) == '.') {
-            end--;
-        }
-        return signs.substring(0, end);
-    }
-
     private static void promise10Task() {
-        MarkChat chat = withUsers(0, 1);
+        MarkChat chat = Chats.withUsers(0, 1);
         chat.post(1, 0, -1);
         Check.due("task, by a GUEST", 0, () -> chat.task(0, 0, 1, 0));
         Check.due("task, latest", 1, () -> chat.task(1, 0, 0, 10000));
-        Check.due("of the hour", "0.0>0@10000", () -> labelOf(chat, 1));
+        Check.due("of the hour", "0.0>0@10000", () -> Chats.labelOf(chat, 1));
         Check.refused("task(2, 0, 0, -1)", Check.INDEX, () -> chat.task(2, 0, 0, -1));
         Check.refused("task(-1, 0, 0, 0)", Check.INDEX, () -> chat.task(-1, 0, 0, 0));
         Check.refused("task(0, 1, 0, -1)", Check.INDEX, () -> chat.task(0, 1, 0, -1));
@@ -59,11 +38,11 @@ public final class TasksTest {
         Check.refused("of an archived one, out of range", Check.ARGUMENT, () -> chat.task(0, 1, 0, -1));
         Check.due("born OPEN, even late", 2, () -> chat.task(0, 0, 0, 0));
         Check.due("OPEN", 0, () -> chat.taskOf(2));
-        Check.due("from now on", "0.0>0@720", () -> labelOf(chat, 2));
+        Check.due("from now on", "0.0>0@720", () -> Chats.labelOf(chat, 2));
     }
 
     private static void promise10MostTasks() {
-        MarkChat chat = withUsers(1);
+        MarkChat chat = Chats.withUsers(1);
         chat.post(0, 0, -1);
         for (int i = 0; i < 60; i++) {
             int number = i;
@@ -80,7 +59,7 @@ public final class TasksTest {
     }
 
     private static void promise11Done() {
-        MarkChat chat = withUsers(0, 1);
+        MarkChat chat = Chats.withUsers(0, 1);
         chat.post(1, 0, -1);
         chat.task(1, 0, 0, 5);
         chat.task(1, 0, 0, 5);
@@ -102,7 +81,7 @@ public final class TasksTest {
     }
 
     private static void promise13Archive() {
-        MarkChat chat = withUsers(1);
+        MarkChat chat = Chats.withUsers(1);
         Check.due("an empty channel", 0, () -> chat.archive(5));
         Check.refused("archive(6)", Check.INDEX, () -> chat.archive(6));
         Check.refused("archive(-1)", Check.INDEX, () -> chat.archive(-1));
@@ -131,7 +110,7 @@ public final class TasksTest {
     }
 
     private static void promise13WhatKeepsAMessage() {
-        MarkChat chat = withUsers(1, 2);
+        MarkChat chat = Chats.withUsers(1, 2);
         chat.budget(0, 10);
         chat.post(0, 0, -1);
         chat.post(0, 0, -1);
@@ -154,7 +133,7 @@ public final class TasksTest {
     }
 
     private static void promise13Threads() {
-        MarkChat chat = withUsers(1);
+        MarkChat chat = Chats.withUsers(1);
         chat.post(0, 0, -1);
         chat.post(0, 0, 0);
         chat.post(0, 0, 1);
@@ -167,7 +146,7 @@ public final class TasksTest {
         Check.due("the one without replies", 1, () -> chat.messageOf(3, 5));
         chat.done(0, 0);
         Check.due("a thread at once", 3, () -> chat.archive(0));
-        MarkChat young = withUsers(1);
+        MarkChat young = Chats.withUsers(1);
         young.post(0, 0, -1);
         young.pass(720);
         young.post(0, 0, 0);
@@ -177,7 +156,7 @@ public final class TasksTest {
     }
 
     private static void promise19Next() {
-        MarkChat chat = withUsers(1, 1);
+        MarkChat chat = Chats.withUsers(1, 1);
         chat.post(0, 0, -1);
         chat.post(0, 0, -1);
         Check.due("none", -1, () -> chat.next(0, 0));
@@ -209,7 +188,7 @@ public final class TasksTest {
     }
 
     private static void promise20TaskOf() {
-        MarkChat chat = withUsers(1);
+        MarkChat chat = Chats.withUsers(1);
         chat.post(0, 0, -1);
         chat.post(0, 0, -1);
         chat.task(0, 0, 0, 1);
@@ -227,19 +206,19 @@ public final class TasksTest {
     }
 
     private static void promise21Label() {
-        MarkChat chat = withUsers(1, 1, 1, 1, 1, 1, 1, 1, 1, 1, 1, 1);
+        MarkChat chat = Chats.withUsers(1, 1, 1, 1, 1, 1, 1, 1, 1, 1, 1, 1);
         for (int i = 0; i < 13; i++) {
             chat.post(0, 0, -1);
         }
         chat.task(0, 12, 3, 48);
-        Check.due("the document's", "12.0>3@48", () -> labelOf(chat, 0));
+        Check.due("the document's", "12.0>3@48", () -> Chats.labelOf(chat, 0));
         for (int i = 0; i < 10; i++) {
             chat.edit(0, 12);
         }
         chat.pass(1000);
         chat.task(0, 12, 11, 9000);
-        Check.due("as it was born", "12.0>3@48", () -> labelOf(chat, 0));
-        Check.due("the longer one", "12.10>11@10000", () -> labelOf(chat, 1));
+        Check.due("as it was born", "12.0>3@48", () -> Chats.labelOf(chat, 0));
+        Check.due("the longer one", "12.10>11@10000", () -> Chats.labelOf(chat, 1));
         Check.due("the first sign", '1', () -> chat.label(0, 0));
         Check.due("the last sign", '8', () -> chat.label(0, 8));
         Check.due("behind it", (char) 0, () -> chat.label(0, 9));

@@ -122,18 +122,6 @@ public final class UsersTest {
         Check.refused("left(6)", Check.INDEX, () -> chat.left(6));
         Check.refused("left(-1)", Check.INDEX, () -> chat.left(-1));
         Check.due("refused budgets change nothing", 1000001, () -> chat.left(5));
-        budgetLimit();
-    }
-
-    /** Beyond 512 calls, where answers are free: here it is the limit alone that is looked at. */
-    private static void budgetLimit() {
-        MarkChat chat = new MarkChat();
-        for (int i = 0; i < 999; i++) {
-            chat.budget(0, 1000000);
-        }
-        Check.due("budget up to the limit", 1000000000, () -> chat.budget(0, 1000000));
-        Check.refused("budget above the limit", Check.STATE, () -> chat.budget(0, 1));
-        Check.due("the limit is left", 1000000000, () -> chat.left(0));
     }
 
     private static void promise12Hold() {
